@@ -162,6 +162,17 @@ public final class MixtureTest {
         CHECK.due("the gap may grow again, the first time counts", y.stepsUntil(0, y.gap()), 0);
     }
 
+    /** A descent whose gap after 50 steps is smaller than ever before, and still not 0. */
+    private static void fiftySteps() {
+        PolytopeDescent x = Check.loaded("P3c6r-9+3-1+18r-9+8-9-00r-6-1+1-14");
+        x.reset(1);
+        CHECK.due("fifty steps count", x.stepsUntil(2, 52008), 50);
+        CHECK.due("a fifty-first does not", x.stepsUntil(2, 52007), PolytopeDescent.NONE);
+        CHECK.due("fifty steps are made", x.run(2, 50), 50);
+        CHECK.due("the gap then", x.gap(), 52008);
+        CHECK.isTrue("more steps would follow", x.preview(2, 0) > 0);
+    }
+
     public static void main(String[] args) {
         numbers();
         largest();
@@ -170,6 +181,7 @@ public final class MixtureTest {
         searching();
         previewing();
         countingSteps();
+        fiftySteps();
         CHECK.close();
     }
 }

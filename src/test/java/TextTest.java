@@ -104,6 +104,18 @@ public final class TextTest {
         position("P1s1" + "r+1+00".repeat(4) + "r", 28);
         position("P1s1" + "r+1+00".repeat(5), 28);
         position(" P1s1r+1+00", 0);
+        // The signs just below '0' and just above '9' are no digits anywhere.
+        position("P1s:r+1+00", 3);
+        position("P1p:r+1+00", 3);
+        position("P1p/r+1+00", 3);
+        position("P2b1:r+1+1+00", 4);
+        position("P1c/r+1+00", 3);
+        position("P1l1:r+1+00", 4);
+        position("P1l1/r+1+00", 4);
+        position("P1s1r+:+00", 6);
+        position("P1s1r+/+00", 6);
+        position("P1s1r+1+:0", 8);
+        position("P1s1r+1+0/", 9);
     }
 
     private static void vertices(String text, int kind, String due) {
