@@ -1,4 +1,6 @@
 import java.util.concurrent.Callable;
+import java.util.function.Supplier;
+import java.util.function.ToLongFunction;
 
 /** Counts answers that are due and those that are not; each test class ends with close(). */
 final class Check {
@@ -39,6 +41,18 @@ final class Check {
 
     void dueState(String call, Callable<?> body) {
         dueThrow(call, IllegalStateException.class, body);
+    }
+
+    void same(String what, String got, String want) {
+        note(got.equals(want), what + " answered " + got + ", due is " + want);
+    }
+
+    /** A refused call throws what is due and changes nothing: its object and an untouched twin show the same to the end. */
+    void refused(String call, Class<? extends RuntimeException> want, Supplier<PolytopeDescent> make,
+        ToLongFunction<PolytopeDescent> body) {
+        PolytopeDescent tried = make.get();
+        dueThrow(call, want, () -> body.applyAsLong(tried));
+        same("after the refused " + call + " the object", lastLook(tried), lastLook(make.get()));
     }
 
     private void note(boolean good, String message) {
@@ -102,5 +116,58 @@ final class Check {
             all.append(i == 0 ? "" : " ").append(x.atom(i, 0)).append(':').append(x.atom(i, 1));
         }
         return all.toString();
+    }
+
+    /** The state alone: counts, mixture and rows. */
+    static String state(PolytopeDescent x) {
+        StringBuilder all = new StringBuilder(mixture(x)).append(" steps ").append(x.about(5));
+        all.append(" drops ").append(x.about(6)).append(" rows");
+        int rows = x.about(3);
+        int d = x.about(0);
+        for (int k = 0; k < rows; k++) {
+            for (int j = 0; j <= d; j++) {
+                all.append(' ').append(x.row(k, j));
+            }
+        }
+        return all.toString();
+    }
+
+    /** The vertices as "coordinates coordinates ..", in their order. */
+    static String vertices(PolytopeDescent x) {
+        StringBuilder all = new StringBuilder();
+        int n = x.about(2);
+        int d = x.about(0);
+        for (int i = 0; i < n; i++) {
+            all.append(i == 0 ? "" : " ");
+            for (int j = 0; j < d; j++) {
+                all.append(x.vertex(i, j));
+            }
+        }
+        return all.toString();
+    }
+
+    /** All that can ever be seen of an object, which is used up by it: state, memory, slots, text. */
+    static String lastLook(PolytopeDescent x) {
+        StringBuilder all = new StringBuilder(vertices(x)).append(" | ").append(state(x));
+        boolean more = true;
+        while (more) {
+            more = addState(all, x, "undo", x::undo);
+        }
+        addState(all, x, "slot 0", () -> x.restore(0));
+        addState(all, x, "slot 1", () -> x.restore(1));
+        all.append(" | error ").append(x.errorPosition());
+        addState(all, x, "load", x::load);
+        return all.append(" | ").append(vertices(x)).append(" | text ").append(x.clearText()).toString();
+    }
+
+    private static boolean addState(StringBuilder all, PolytopeDescent x, String what, Callable<Integer> call) {
+        all.append(" | ").append(what).append(' ');
+        try {
+            all.append(call.call()).append(' ').append(state(x));
+            return true;
+        } catch (Exception e) {
+            all.append(e.getClass().getSimpleName());
+            return false;
+        }
     }
 }
