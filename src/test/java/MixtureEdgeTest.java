@@ -290,6 +290,9 @@ public final class MixtureEdgeTest {
         x.setRow(0, 0, 0);
         CHECK.due("all alike", x.bestAlone(), 0);
         CHECK.due("one vertex", Check.loaded("P1l15r+9-99").bestAlone(), 0);
+        CHECK.due("the second of two", Check.loaded("P1l234r+1+04").bestAlone(), 1);
+        CHECK.due("the first of two", Check.loaded("P1l234r+1+03").bestAlone(), 0);
+        CHECK.due("the second of three", Check.loaded("P1l3345r+1+04").bestAlone(), 1);
         PolytopeDescent y = Check.loaded("P4p1234r+9+9+9+9+99r+9+8+7+1+99r+9+8+7+1+99r+9+8+7+1+99");
         CHECK.due("the last of 24", y.bestAlone(), 23);
         // As ints the greater values would wrap around to negative ones.

@@ -44,6 +44,7 @@ public final class StepEdgeTest {
         step("0.5: the smaller of 0 and 1", segment(4, 1, 0), 0, 0, "0:100");
         step("0.67 of a unit is one", segment(3, 1, 0), 0, 1, "0:99 1:1");
         step("exactly 1", segment(2, 1, 0), 0, 1, "0:99 1:1");
+        step("66.67 is nearer to 67", Check.loaded("P1s1r+1+01r+1+01r+1+00"), 0, 67, "0:33 1:67");
         step("exactly 99", segment(2, 1, 14), 0, 99, "0:1 1:99");
         step("99.5: the smaller of 99 and 100", segment(4, 3, 28), 0, 99, "0:1 1:99");
         step("exactly 100", segment(2, 2, 14), 0, 100, "1:100");
@@ -74,6 +75,8 @@ public final class StepEdgeTest {
         step("exactly 40 of 40", sixty(segment(2, 2, 14)), 2, 40, "1:100");
         step("more than 40 is not in the range", sixty(segment(2, 3, 14)), 2, 40, "1:100");
         step("all of 100", segment(2, 2, 14), 2, 100, "1:100");
+        step("66.67 is nearer to 67", Check.loaded("P1s1r+1+01r+1+01r+1+00"), 2, 67, "0:33 1:67");
+        step("33.33 is nearer to 33", Check.loaded("P1s1r+1+01r+1+00r+1+00"), 2, 33, "0:67 1:33");
         step("0.5 of 63", part(Check.loaded("P1s8r+1+03"), 37), 2, 0, "0:63 1:37");
         step("1.5 of 64", part(Check.loaded("P1s8r+1+03"), 36), 2, 1, "0:63 1:37");
         step("0.5 from the other side", part(Check.loaded("P1s8r+1+03"), 38), 2, 0, "0:62 1:38");

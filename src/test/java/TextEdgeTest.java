@@ -151,6 +151,17 @@ public final class TextEdgeTest {
         }
     }
 
+    /** What was there before clearText is no part of a shorter text. */
+    private static void shorterThanBefore() {
+        String text = "P2l30912" + "34" + "r+1-2+07r+3+4+56";
+        for (int n = 0; n < text.length(); n++) {
+            PolytopeDescent x = new PolytopeDescent();
+            Check.type(x, text);
+            Check.type(x, text.substring(0, n));
+            CHECK.due("errorPosition of " + n + " characters", x.errorPosition(), n == 18 ? NONE : n);
+        }
+    }
+
     private static void endsTooSoon() {
         beginnings("P1s1r+1+00r+1+00r+1+00r+1+00");
         beginnings("P4b9999r+1-2+3-4+99r+1-2+3-4+99r+1-2+3-4+99r+1-2+3-4-99");
@@ -347,6 +358,47 @@ public final class TextEdgeTest {
         CHECK.same("no old vertex", Check.vertices(x), "0000 0001 0010 0100 1000");
     }
 
+    /** Each kind after each other kind with more coordinates: every vertex is found, and none of those that were. */
+    private static void loadAfterLoad() {
+        String[] large = {"P4s9", "P4b9876", "P4c9", "P4p9876", "P4l2" + "6789" + "9876"};
+        String[] small = {"P1s2", "P2s2", "P1b2", "P2b23", "P3b234", "P1c2", "P2c2", "P1p2", "P2p23", "P3p234", "P1l12",
+            "P2l2" + "2332"};
+        for (String first : large) {
+            for (String second : small) {
+                reload(first + "r+1+2+3+4+05", second + "r" + "+1".repeat(second.charAt(1) - '0') + "+00");
+            }
+        }
+    }
+
+    private static void reload(String first, String second) {
+        PolytopeDescent x = Check.loaded(first);
+        int[][] former = points(x);
+        Check.type(x, second);
+        x.load();
+        int[][] present = points(x);
+        CHECK.same(second + " after " + first, Check.vertices(x), Check.vertices(Check.loaded(second)));
+        for (int i = 0; i < present.length; i++) {
+            int[] p = present[i];
+            CHECK.due("vertex " + i + " of " + second + " after " + first, x.find(p[0], p[1], p[2], p[3]), i);
+        }
+        for (int[] p : former) {
+            // The origin is a vertex of most kinds; no other point is one of the large and of the small polytope.
+            if (p[0] != 0 || p[1] != 0 || p[2] != 0 || p[3] != 0) {
+                CHECK.due("a former vertex of " + first, x.find(p[0], p[1], p[2], p[3]), NONE);
+            }
+        }
+    }
+
+    private static int[][] points(PolytopeDescent x) {
+        int[][] all = new int[x.about(2)][4];
+        for (int i = 0; i < all.length; i++) {
+            for (int j = 0; j < x.about(0); j++) {
+                all[i][j] = x.vertex(i, j);
+            }
+        }
+        return all;
+    }
+
     public static void main(String[] args) {
         aNewObject();
         codes();
@@ -356,6 +408,7 @@ public final class TextEdgeTest {
         clearing();
         places();
         endsTooSoon();
+        shorterThanBefore();
         dimensions();
         sizes();
         numbersOfPoints();
@@ -367,6 +420,7 @@ public final class TextEdgeTest {
         checkingChangesNothing();
         loadStartsAnew();
         loadReplacesAll();
+        loadAfterLoad();
         CHECK.close();
     }
 }
