@@ -216,7 +216,10 @@ public final class StepEdgeTest {
         CHECK.due("no drop", y.about(6), 0);
     }
 
-    /** The best vertex, an atom that is rounded down to nothing before it gets its units, has units after the step. */
+    /**
+     * "The units of each vertex are multiplied .., rounded .., and then s gets t units.", "Atoms without units are removed
+     * (dropped) after the step": s, an atom that is rounded down to nothing and then filled, has units after the step.
+     */
     private static void bestVertexKeepsItsPlace() {
         PolytopeDescent x = Check.loaded("P1l209r+1+08");
         x.transfer(0, 1, 100);
